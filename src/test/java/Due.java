@@ -19,6 +19,11 @@ final class Due {
         }
     }
 
+    /** As says, where Walk looks that the words stand in the document. */
+    void about(String words) {
+        sentence = "'" + words + "': ";
+    }
+
     private static String textOf(String section) {
         if (!Files.isReadable(DOC)) {
             return null;
