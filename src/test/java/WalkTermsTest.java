@@ -386,6 +386,11 @@ public final class WalkTermsTest {
         due.is("none in ZONE 1 may: of all", x.pick(1), 1);
         x.call(1, 0, 99, false);
         due.is("none may", x.pick(1), -9);
+        x.server(1, 0, 2, 9, 0);
+        x.call(0, 0, 99, false);
+        x.off(0);
+        x.off(3);
+        due.is("ZONE 0, though ZONE 2 has fewer", x.pick(65532), 3);
     }
 
     // ---- Terms: a CALL comes, FAILURES, answers, AGAIN
@@ -523,6 +528,12 @@ public final class WalkTermsTest {
         x.budget(0);
         x.call(0, 0, 9, true);
         due.is("BUDGET 0: 300 is above 0", x.ticks(1), 1);
+        x = Doors.with(1, 20, 1, 1);
+        x.budget(33);
+        for (int n = 0; n < 3; n++) {
+            x.call(0, 0, 9, true);
+        }
+        due.is("3 came, BUDGET 33: 100 is above 99", x.ticks(1), 3);
     }
 
     // ---- Terms: a TICK passes
